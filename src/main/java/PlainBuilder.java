@@ -318,10 +318,11 @@ public final class PlainBuilder {
             return failed;
         }
 
+        /** Past the limit every key fails, so that EITHER's second key can't save it any more. */
         long work(Row row, int key) {
             worked++;
             int teller = tellerOf(key);
-            if (isOver() || teller == NONE || !isBelow(key, KEYS) || open[key]) {
+            if (worked > MOST_WORKED || teller == NONE || !isBelow(key, KEYS) || open[key]) {
                 return fail();
             }
             if (row.kind(teller) == NUMBER) {
@@ -338,7 +339,7 @@ public final class PlainBuilder {
             int kind = row.kind(teller);
             long left = work(row, row.b(teller));
             if (kind == EITHER) {
-                return failed && !isOver() ? work(row, row.c(teller)) : left;
+                return failed ? work(row, row.c(teller)) : left;
             }
             if (failed) {
                 return 0;
@@ -351,11 +352,6 @@ public final class PlainBuilder {
                 return right == 0 ? fail() : left / right;
             }
             return kind == SUM ? left + right : left * right;
-        }
-
-        /** Past the limit even EITHER must not go on with its second key. */
-        private boolean isOver() {
-            return worked > MOST_WORKED;
         }
 
         private long fail() {

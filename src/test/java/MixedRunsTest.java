@@ -1,0 +1,177 @@
+import java.util.Random;
+
+/** All promises: runs of 512 calls each, of many mixes, against the model. */
+public final class MixedRunsTest {
+    private static final int RUNS = 1500;
+    private static final int CALLS = 512;
+    private static final long[] ODD = {
+        Long.MIN_VALUE, Integer.MIN_VALUE, -101, -100, -99, -2, -1, 0, 1, 2, 3, 5, 6, 7, 8, 9, 10,
+        15, 16, 63, 64, 255, 256, 599, 600, 1L << 32, Long.MAX_VALUE
+    };
+
+    private static final Due due = new Due();
+    // A fixed seed: every run of this test makes the same calls.
+    private static final Random random = new Random(20261115);
+
+    private static PlainBuilder builder;
+    private static Model model;
+    private static int mix;
+    private static int spread;
+
+    public static void main(String[] args) {
+        for (int run = 0; run < RUNS; run++) {
+            builder = new PlainBuilder();
+            model = new Model();
+            mix = run % 7;
+            spread = 2 + random.nextInt(15);
+            // Few events leave room for questions in every state, many for what is large.
+            int share = 10 + random.nextInt(80);
+            for (int call = 0; call < CALLS; call++) {
+                if (random.nextInt(100) < share) {
+                    tell(run);
+                } else {
+                    ask(run);
+                }
+            }
+        }
+        due.end("MixedRunsTest");
+    }
+
+    private static void compare(int run, String call, Due.Call got, Due.Call want) {
+        String due = Due.outcome(want);
+        String answer = Due.outcome(got);
+        if (due.equals(answer)) {
+            MixedRunsTest.due.is(call, 0, 0);
+        } else {
+            MixedRunsTest.due.tellWrong("run " + run + ": " + call + " answered " + answer
+                    + ", due is " + due);
+        }
+    }
+
+    private static int kind() {
+        int any = random.nextInt(50);
+        if (any == 0) {
+            return random.nextInt(20) - 2;
+        }
+        switch (any < 5 ? 0 : mix) {
+            case 1:
+                return random.nextInt(5);
+            case 2:
+                return random.nextInt(10);
+            case 3:
+                return 10 + random.nextInt(2);
+            case 4:
+                return 12 + random.nextInt(2);
+            case 5:
+                return random.nextInt(3) == 0 ? 14 : random.nextInt(5);
+            case 6:
+                return random.nextInt(4) == 0 ? random.nextInt(16) : 15;
+            default:
+                return random.nextInt(16);
+        }
+    }
+
+    private static long below(int bound) {
+        return random.nextInt(Math.min(bound, spread));
+    }
+
+    private static long odd() {
+        return ODD[random.nextInt(ODD.length)];
+    }
+
+    private static void tell(int run) {
+        int kind = kind();
+        long a = below(kind <= 4 || kind == 14 ? 64 : kind == 10 || kind == 11 ? 6 : 16);
+        long b = numberB(kind);
+        long c = numberC(kind);
+        if (kind == 15) {
+            a = random.nextInt(2);
+        }
+        if (kind == 11 && random.nextInt(4) == 0) {
+            a = 0;
+            b = 0;
+        }
+        int wrong = random.nextInt(60);
+        long ea = wrong == 0 ? odd() : a;
+        long eb = wrong == 1 ? odd() : b;
+        long ec = wrong == 2 ? odd() : c;
+        compare(run, "event(" + kind + ", " + ea + ", " + eb + ", " + ec + ")",
+                () -> builder.event(kind, ea, eb, ec), () -> model.event(kind, ea, eb, ec));
+    }
+
+    private static long numberB(int kind) {
+        switch (kind) {
+            case 0:
+                return random.nextInt(3) == 0 ? odd() : random.nextInt(9) - 4;
+            case 6:
+            case 7:
+            case 8:
+            case 9:
+                return below(8);
+            case 10:
+            case 11:
+                return 1 + below(9);
+            case 13:
+                return 1 + random.nextInt(2);
+            case 15:
+                return below(256);
+            default:
+                return below(kind <= 4 || kind == 14 ? 64 : 16);
+        }
+    }
+
+    private static long numberC(int kind) {
+        switch (kind) {
+            case 7:
+            case 8:
+                return below(8);
+            case 9:
+                return below(16);
+            case 11:
+                return below(6) * 100 + random.nextInt(5) * 10 + 3 + random.nextInt(7);
+            case 12:
+                return 1 + random.nextInt(3);
+            default:
+                return below(64);
+        }
+    }
+
+    private static void ask(int run) {
+        int far = random.nextInt(40) == 0 ? (int) odd() : random.nextInt(spread + 1);
+        int path = random.nextInt(30) == 0 ? (int) odd() : random.nextInt(8);
+        switch (random.nextInt(10)) {
+            case 0:
+                compare(run, "events()", () -> builder.events(), () -> model.events());
+                break;
+            case 1:
+                compare(run, "solve()", () -> builder.solve(), () -> model.solve());
+                break;
+            case 2:
+                compare(run, "chosen(" + far + ")", () -> builder.chosen(far),
+                        () -> model.chosen(far));
+                break;
+            case 3:
+                compare(run, "output(" + far + ", " + path + ")",
+                        () -> builder.output(far, path), () -> model.output(far, path));
+                break;
+            case 4:
+                compare(run, "job(" + far + ", " + path / 3 + ")",
+                        () -> builder.job(far, path / 3), () -> model.job(far, path / 3));
+                break;
+            case 5:
+                compare(run, "ring(" + far + ")", () -> builder.ring(far), () -> model.ring(far));
+                break;
+            case 6:
+            case 7:
+                compare(run, "test(" + far + ")", () -> builder.test(far), () -> model.test(far));
+                break;
+            case 8:
+                compare(run, "delta(" + far + ")", () -> builder.delta(far),
+                        () -> model.delta(far));
+                break;
+            default:
+                compare(run, "value(" + far + ")", () -> builder.value(far),
+                        () -> model.value(far));
+        }
+    }
+}
