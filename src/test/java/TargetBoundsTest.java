@@ -112,6 +112,16 @@ public final class TargetBoundsTest {
             is("added from there", told, 0, (from + 1) % 8, 5);
             is("0 also in the next run", told, 0, from, 0);
         }
+        for (int path = 0; path < 8; path++) {
+            int seen = (path + 3) % 8;
+            // What a path is at first is copied before the path is written.
+            Told told = new Told().number(0, 5).target(0).copy(0, seen, path).write(0, path, 0)
+                    .target(1).take(1, seen, 0).take(1, path, 0).take(1, seen, 0);
+            is("the first run", told, 0, seen, 0);
+            is("the run behind it", told, 0, seen, 0);
+            is("the third run that another one takes from", told, 1, seen, 0);
+            is("what was written then", told, 1, path, 5);
+        }
     }
 
     /** "STEPS of a TARGET that is told, in the order of the EVENTS" */
