@@ -41,8 +41,14 @@ final class Due {
         try {
             return Long.toString(body.answer());
         } catch (RuntimeException e) {
-            return "throws." + e.getClass().getSimpleName();
+            String name = "throws." + e.getClass().getSimpleName();
+            return isOfTheMachine(e) ? name + ", by the machine" : name;
         }
+    }
+
+    /** The class throws by itself, with a text: the machine's index errors have another, or none. */
+    private static boolean isOfTheMachine(RuntimeException e) {
+        return e.getMessage() == null || e.getMessage().startsWith("Index ");
     }
 
     void end(String name) {

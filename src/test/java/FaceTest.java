@@ -41,7 +41,9 @@ public final class FaceTest {
             due.tellWrong("the face is " + got + ", due is " + want);
         }
         due.is("NONE", PlainBuilder.NONE, -1);
-        due.is("the class is final", Modifier.isFinal(PlainBuilder.class.getModifiers()) ? 1 : 0, 1);
+        int kind = PlainBuilder.class.getModifiers();
+        due.is("the class is final", Modifier.isFinal(kind) ? 1 : 0, 1);
+        due.is("the class is public", Modifier.isPublic(kind) ? 1 : 0, 1);
         due.end("FaceTest");
     }
 }

@@ -286,7 +286,7 @@ public final class KeyBoundsTest {
         }
     }
 
-    /** Whatever the 301st KEY is: a number, not told, being worked out, or one that divides by 0. */
+    /** Whatever the 301st KEY is: a number, not told, being worked out, or dividing by 0. */
     private static void every301stKeyCounts() {
         for (int cost = 295; cost <= 303; cost++) {
             Costs costs = new Costs();

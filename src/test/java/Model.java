@@ -76,7 +76,7 @@ final class Model {
         try {
             return work(key, new HashSet<>());
         } catch (Fails | AllFails e) {
-            throw new IllegalStateException();
+            throw new IllegalStateException("fails");
         }
     }
 
@@ -128,9 +128,9 @@ final class Model {
                 return tree[path];
             }
         } catch (Fails | AllFails e) {
-            throw new IllegalStateException();
+            throw new IllegalStateException("fails");
         }
-        throw new IllegalStateException();
+        throw new IllegalStateException("fails");
     }
 
     private long[] run(long target, List<Long> running) throws Fails, AllFails {
@@ -324,6 +324,9 @@ final class Model {
         }
         byte[] whole = texts[1].toByteArray();
         byte[] delta = Arrays.equals(texts[0].toByteArray(), whole) ? new byte[0] : whole;
+        if (i < 0 || i >= delta.length) {
+            throw new ArrayIndexOutOfBoundsException("no such byte");
+        }
         return delta[i];
     }
 }
