@@ -4,6 +4,7 @@ import java.util.Random;
 public final class MixedRunsTest {
     private static final int RUNS = 1500;
     private static final int CALLS = 512;
+    private static final int DEAR = 7;
     private static final long[] ODD = {
         Long.MIN_VALUE, Integer.MIN_VALUE, -101, -100, -99, -2, -1, 0, 1, 2, 3, 5, 6, 7, 8, 9, 10,
         15, 16, 63, 64, 255, 256, 599, 600, 1L << 32, Long.MAX_VALUE
@@ -22,8 +23,8 @@ public final class MixedRunsTest {
         for (int run = 0; run < RUNS; run++) {
             builder = new PlainBuilder();
             model = new Model();
-            mix = run % 7;
-            spread = 2 + random.nextInt(15);
+            mix = run % 8;
+            spread = mix == DEAR ? 16 + random.nextInt(30) : 2 + random.nextInt(15);
             // Few events leave room for questions in every state, many for what is large.
             int share = 10 + random.nextInt(80);
             for (int call = 0; call < CALLS; call++) {
@@ -66,9 +67,22 @@ public final class MixedRunsTest {
                 return random.nextInt(3) == 0 ? 14 : random.nextInt(5);
             case 6:
                 return random.nextInt(4) == 0 ? random.nextInt(16) : 15;
+            case DEAR:
+                return dearKind();
             default:
                 return random.nextInt(16);
         }
+    }
+
+    /** Mostly keys and steps that go on from others, so that counts come near their limits. */
+    private static int dearKind() {
+        int[] kinds = {0, 1, 1, 2, 2, 3, 4, 4, 4, 4, 5, 6, 9, 14};
+        return kinds[random.nextInt(kinds.length)];
+    }
+
+    /** One of the few below a: chains of such are long, and their costs double at each. */
+    private static long justBelow(long a) {
+        return Math.max(0, a - 1 - random.nextInt(3));
     }
 
     private static long below(int bound) {
@@ -86,6 +100,16 @@ public final class MixedRunsTest {
         long c = numberC(kind);
         if (kind == 15) {
             a = random.nextInt(2);
+        }
+        if (mix == DEAR && kind == 0) {
+            a = random.nextInt(4);
+        }
+        if (mix == DEAR && kind >= 1 && kind <= 4) {
+            b = justBelow(a);
+            c = justBelow(a);
+        }
+        if (mix == DEAR && kind == 9) {
+            c = justBelow(a);
         }
         if (kind == 11 && random.nextInt(4) == 0) {
             a = 0;
