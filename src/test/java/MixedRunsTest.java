@@ -4,7 +4,11 @@ import java.util.Random;
 public final class MixedRunsTest {
     private static final int RUNS = 1500;
     private static final int CALLS = 512;
-    private static final int DEAR = 7;
+    private static final int MIXES = 9;
+    private static final int DEAR_KEYS = 7;
+    private static final int DEAR_TARGETS = 8;
+    private static final int[] KINDS_OF_KEYS = {0, 1, 1, 2, 2, 3, 4, 4, 4, 4, 5, 6, 9, 14};
+    private static final int[] KINDS_OF_TARGETS = {0, 0, 6, 6, 7, 8, 8, 9, 9, 9, 9, 9, 9, 9};
     private static final long[] ODD = {
         Long.MIN_VALUE, Integer.MIN_VALUE, -101, -100, -99, -2, -1, 0, 1, 2, 3, 5, 6, 7, 8, 9, 10,
         15, 16, 63, 64, 255, 256, 599, 600, 1L << 32, Long.MAX_VALUE
@@ -23,11 +27,12 @@ public final class MixedRunsTest {
         for (int run = 0; run < RUNS; run++) {
             builder = new PlainBuilder();
             model = new Model();
-            mix = run % 8;
-            spread = mix == DEAR ? 16 + random.nextInt(30) : 2 + random.nextInt(15);
+            mix = run % MIXES;
+            spread = isDear() ? 16 + random.nextInt(30) : 2 + random.nextInt(15);
             // Few events leave room for questions in every state, many for what is large.
             int share = 10 + random.nextInt(80);
-            for (int call = 0; call < CALLS; call++) {
+            int told = mix == DEAR_TARGETS ? tellTargets(run) : 0;
+            for (int call = told; call < CALLS; call++) {
                 if (random.nextInt(100) < share) {
                     tell(run);
                 } else {
@@ -67,17 +72,22 @@ public final class MixedRunsTest {
                 return random.nextInt(3) == 0 ? 14 : random.nextInt(5);
             case 6:
                 return random.nextInt(4) == 0 ? random.nextInt(16) : 15;
-            case DEAR:
-                return dearKind();
+            case DEAR_KEYS:
+                return oneOf(KINDS_OF_KEYS);
+            case DEAR_TARGETS:
+                return oneOf(KINDS_OF_TARGETS);
             default:
                 return random.nextInt(16);
         }
     }
 
-    /** Mostly keys and steps that go on from others, so that counts come near their limits. */
-    private static int dearKind() {
-        int[] kinds = {0, 1, 1, 2, 2, 3, 4, 4, 4, 4, 5, 6, 9, 14};
+    private static int oneOf(int[] kinds) {
         return kinds[random.nextInt(kinds.length)];
+    }
+
+    /** Keys and steps that go on from others, so that counts come to their limits. */
+    private static boolean isDear() {
+        return mix == DEAR_KEYS || mix == DEAR_TARGETS;
     }
 
     /** One of the few below a: chains of such are long, and their costs double at each. */
@@ -93,6 +103,22 @@ public final class MixedRunsTest {
         return ODD[random.nextInt(ODD.length)];
     }
 
+    /** All targets are told first, and the keys that they write: how many calls that takes. */
+    private static int tellTargets(int run) {
+        for (int target = 0; target < 16; target++) {
+            tell(run, 5, target, 0, 0);
+        }
+        for (int key = 0; key < 4; key++) {
+            tell(run, 0, key, key + 5, 0);
+        }
+        return 20;
+    }
+
+    private static void tell(int run, int kind, long a, long b, long c) {
+        compare(run, "event(" + kind + ", " + a + ", " + b + ", " + c + ")",
+                () -> builder.event(kind, a, b, c), () -> model.event(kind, a, b, c));
+    }
+
     private static void tell(int run) {
         int kind = kind();
         long a = below(kind <= 4 || kind == 14 ? 64 : kind == 10 || kind == 11 ? 6 : 16);
@@ -101,14 +127,18 @@ public final class MixedRunsTest {
         if (kind == 15) {
             a = random.nextInt(2);
         }
-        if (mix == DEAR && kind == 0) {
+        if (isDear() && kind == 0) {
             a = random.nextInt(4);
         }
-        if (mix == DEAR && kind >= 1 && kind <= 4) {
+        if (isDear() && kind >= 1 && kind <= 4) {
             b = justBelow(a);
             c = justBelow(a);
         }
-        if (mix == DEAR && kind == 9) {
+        if (mix == DEAR_TARGETS && kind == 6) {
+            c = random.nextInt(4);
+        }
+        if (isDear() && kind == 9) {
+            a = 1 + random.nextInt(15);
             c = justBelow(a);
         }
         if (kind == 11 && random.nextInt(4) == 0) {
@@ -119,8 +149,7 @@ public final class MixedRunsTest {
         long ea = wrong == 0 ? odd() : a;
         long eb = wrong == 1 ? odd() : b;
         long ec = wrong == 2 ? odd() : c;
-        compare(run, "event(" + kind + ", " + ea + ", " + eb + ", " + ec + ")",
-                () -> builder.event(kind, ea, eb, ec), () -> model.event(kind, ea, eb, ec));
+        tell(run, kind, ea, eb, ec);
     }
 
     private static long numberB(int kind) {
